@@ -1139,8 +1139,8 @@ public final class FairCircuit {
         }
 
         private boolean isMade(int fair, int next) {
-            int pair = pairOf(fair, next);
-            return pair != NONE && makes[pair];
+            int pair = fair * MOST_FAIRS + next;
+            return pair >= 0 && pair < makes.length && makes[pair];
         }
     }
 

@@ -103,6 +103,7 @@ public final class RideTest {
         Checks.refuses("20 busy", ON_THE_WAY, Checks.UNSUPPORTED, y -> y.go(0, 1));
         Checks.refuses("20 busy, home", ON_THE_WAY, Checks.UNSUPPORTED, y -> y.go(0, -1));
         Checks.refuses("20 up", OPENED, Checks.UNSUPPORTED, y -> y.go(0, 1));
+        Checks.refuses("20 one part up", OPENED, Checks.UNSUPPORTED, y -> y.go(3, -1));
         Checks.refuses("20 up, home", OPENED, Checks.UNSUPPORTED, y -> y.go(0, -1));
         Supplier<FairCircuit> high = Checks.world(CIRCUIT, y -> { y.go(2, 0); y.pass(10); });
         Checks.refuses("20 no way", high, Checks.NO_ELEMENT, y -> y.go(2, 1));
@@ -156,6 +157,9 @@ public final class RideTest {
         Checks.refuses("21 no ground", there, Checks.UNSUPPORTED, y -> y.up(1));
         Checks.refuses("21 no part", there, Checks.UNSUPPORTED, y -> y.up(2));
         Checks.refuses("21 busy", building, Checks.UNSUPPORTED, y -> y.up(0));
+        Supplier<FairCircuit> nearlyBuilt = Checks.world(building, y -> y.pass(3));
+        Checks.refuses("21 busy for an hour", nearlyBuilt, Checks.UNSUPPORTED, y -> y.up(0));
+        Checks.refuses("22 busy for an hour", nearlyBuilt, Checks.UNSUPPORTED, y -> y.down(0));
         Checks.refuses("21 all up", OPENED, Checks.UNSUPPORTED, y -> y.up(0));
         Supplier<FairCircuit> nextYear = Checks.world(building, y -> y.pass(8760));
         Checks.refuses("21 no ground this year", nextYear, Checks.UNSUPPORTED, y -> y.up(0));
