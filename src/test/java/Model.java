@@ -9,7 +9,7 @@ import java.util.NoSuchElementException;
  */
 public final class Model {
     static final class Fam { boolean guild; boolean dead; int money = 1000; }
-    static final class Claim { int family, from, to, last; boolean usedNow; int usedIn = -1; }
+    static final class Claim { int family, from, to, last; boolean usedNow; }
     static final class Town {
         boolean movable; int day, days, ground, toll, power;
         long crowdOn = -1;
