@@ -23,12 +23,15 @@ final class Checks {
         }
     }
 
-    /** The answer of a call, or the exception's name. */
+    /** The answer of a call, or the exception's name; whose it is, if it is not the class that throws it. */
     static Object answer(Callable<Object> call) {
         try {
             return call.call();
         } catch (Exception e) {
-            return e.getClass().getSimpleName();
+            StackTraceElement[] trace = e.getStackTrace();
+            String thrower = trace.length > 0 ? trace[0].getClassName() : "the machine";
+            String name = e.getClass().getSimpleName();
+            return thrower.startsWith("FairCircuit") ? name : name + " of " + thrower;
         }
     }
 

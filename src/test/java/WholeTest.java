@@ -22,7 +22,7 @@ public final class WholeTest {
         Checks.is("example 3 way", z.way(0, 1, 12), 3);
     }
 
-    private static long sum(long... terms) {
+    static long sum(long... terms) {
         long sum = 7;
         for (long term : terms) sum = 31 * sum + term;
         return sum;
