@@ -5,13 +5,16 @@ import java.util.function.Supplier;
 
 /** Where people, their money, the room and the power end, and what a sale and a death move. */
 public final class CrowdTest {
-    /** An open fair of such a power, with rides of such a power, price and room beside each other that nothing keeps. */
+    /**
+     * An open fair of such a power, never told if it is 0, with rides of such a power, price and room
+     * beside each other that nothing keeps.
+     */
     private static Supplier<FairCircuit> row(int power, int[]... rides) {
         return () -> {
             FairCircuit x = new FairCircuit();
             x.family(true);
             x.fair('f', 5, 2, 200, 0);
-            x.power(0, power);
+            if (power > 0) x.power(0, power);
             for (int i = 0; i < rides.length; i++) {
                 x.ride(0, (char) ('a' + i % 5), 10, 8, rides[i][0], rides[i][1], rides[i][2], 12);
                 x.part(i, 1);
@@ -87,13 +90,13 @@ public final class CrowdTest {
         crowd("enough for one behind one that is left out", row(30, r(20, 1, 9), r(30, 1, 9), r(10, 1, 9)), 9, 9, 9, 0, 9);
         crowd("less by 1 for one behind one that is left out", row(29, r(20, 1, 9), r(30, 1, 9), r(10, 1, 9)), 9, 9, 9, 0, 0);
         crowd("the first is left out", row(19, r(20, 1, 9), r(19, 1, 9)), 9, 9, 0, 9);
-        crowd("no power, and a ride without", row(0, r(0, 1, 9), r(1, 1, 9)), 9, 9, 9, 0);
-        crowd("ten of 50 for 500", row(500, r(50, 1, 9), r(50, 1, 9), r(50, 1, 9), r(50, 1, 9), r(50, 1, 9),
+        crowd("power that was never told, and a ride without", row(0, r(0, 1, 9), r(1, 1, 9)), 9, 9, 9, 0);
+        crowd("seven of 50 for 500", row(500, r(50, 1, 9), r(50, 1, 9), r(50, 1, 9), r(50, 1, 9), r(50, 1, 9),
             r(50, 1, 9), r(50, 1, 9)), 9, 9, 9, 9, 9, 9, 9, 9, 9);
         Supplier<FairCircuit> kept = Checks.world(row(20, r(20, 1, 9), r(20, 1, 9)), x -> x.defect(0, true));
         crowd("one that is kept needs no power", kept, 9, 9, 0, 9);
-        Supplier<FairCircuit> untold = Checks.world(row(20, r(20, 1, 9), r(1, 1, 9)), x -> x.power(0, 0));
-        crowd("power 0", untold, 9, 9, 0, 0);
+        Supplier<FairCircuit> noMore = Checks.world(row(20, r(20, 1, 9), r(1, 1, 9)), x -> x.power(0, 0));
+        crowd("power told anew, 0", noMore, 9, 9, 0, 0);
     }
 
     private static void money(String name, Supplier<FairCircuit> world, int people, int each, int due) {
@@ -144,7 +147,7 @@ public final class CrowdTest {
             x.check(0);
             x.crowd(0, 1, 9);
         }), x -> x.takings(0), 20);
-        Cases.answers("promise 42, meanTakings: a third", Checks.world(row(0, r(0, 1, 5), r(0, 1, 0 + 1), r(0, 1, 1)), x -> x.crowd(0, 5, 1)),
+        Cases.answers("promise 42, meanTakings: a third", Checks.world(row(0, r(0, 1, 5), r(0, 1, 1), r(0, 1, 1)), x -> x.crowd(0, 5, 1)),
             x -> x.meanTakings(), 5.0 / 3.0);
     }
 
