@@ -1,3 +1,12 @@
+import java.lang.reflect.InvocationTargetException;
+import java.lang.reflect.Method;
+import java.lang.reflect.Modifier;
+import java.util.ArrayList;
+import java.util.Arrays;
+import java.util.Comparator;
+import java.util.List;
+import java.util.Random;
+
 /** Promises 43 and 44, the examples at the end of "Terms", and answers for any arguments. */
 public final class WholeTest {
     private static void examples() {
@@ -75,22 +84,27 @@ public final class WholeTest {
     /** Each method answers or throws what it names for the most unlikely arguments too. */
     private static void anyArguments() {
         int[] odd = {Integer.MIN_VALUE, -1, 0, 1, 7, 8, 11, 12, 100, 8760, Integer.MAX_VALUE};
-        java.util.Random random = new java.util.Random(7);
+        Random random = new Random(7);
+        List<Method> face = face();
         for (int run = 0; run < 60; run++) {
             FairCircuit x = run % 2 == 0 ? Checks.opened() : new FairCircuit();
             for (int i = 0; i < 460; i++) {
-                java.lang.reflect.Method m = FairCircuit.class.getDeclaredMethods()[random.nextInt(MethodCount.of())];
-                if (!java.lang.reflect.Modifier.isPublic(m.getModifiers())) continue;
-                callOddly(x, m, random, odd);
+                callOddly(x, face.get(random.nextInt(face.size())), random, odd);
             }
         }
     }
 
-    private static final class MethodCount {
-        static int of() { return FairCircuit.class.getDeclaredMethods().length; }
+    /** By their names, so that each machine draws the same calls. */
+    private static List<Method> face() {
+        List<Method> face = new ArrayList<>();
+        for (Method m : FairCircuit.class.getDeclaredMethods()) {
+            if (Modifier.isPublic(m.getModifiers())) face.add(m);
+        }
+        face.sort(Comparator.comparing(Method::getName));
+        return face;
     }
 
-    private static void callOddly(FairCircuit x, java.lang.reflect.Method m, java.util.Random random, int[] odd) {
+    private static void callOddly(FairCircuit x, Method m, Random random, int[] odd) {
         Class<?>[] types = m.getParameterTypes();
         Object[] args = new Object[types.length];
         for (int p = 0; p < args.length; p++) {
@@ -99,9 +113,9 @@ public final class WholeTest {
         }
         try {
             m.invoke(x, args);
-        } catch (java.lang.reflect.InvocationTargetException e) {
-            boolean named = java.util.Arrays.asList(m.getExceptionTypes()).contains(e.getCause().getClass());
-            Checks.is(m.getName() + java.util.Arrays.toString(args) + " throws a named " + e.getCause(), named, true);
+        } catch (InvocationTargetException e) {
+            boolean named = Arrays.asList(m.getExceptionTypes()).contains(e.getCause().getClass());
+            Checks.is(m.getName() + Arrays.toString(args) + " throws a named " + e.getCause(), named, true);
             String thrower = e.getCause().getStackTrace()[0].getClassName();
             Checks.is(m.getName() + " throws by itself", thrower.startsWith("FairCircuit"), true);
         } catch (IllegalAccessException e) {
